@@ -389,7 +389,7 @@ public final class ServiceHall {
             if (!hasAllTargets(c)) {
                 stop(c);
             }
-        } else {
+        } else if (c.state == ACTIVE) {
             boolean restart = false;
             for (int r = 0; r < c.referenceCount && c.state == ACTIVE && !restart; r++) {
                 restart = mustRestart(c, c.references[r], noted);

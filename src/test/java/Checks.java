@@ -24,6 +24,10 @@ final class Checks {
         }
     }
 
+    static void noFilter(ServiceHall hall, Class<? extends RuntimeException> due, String what, int f, String text) {
+        refused(hall, due, what, () -> setFilter(hall, f, text));
+    }
+
     /** The call throws this very exception, and nothing that the object shows is other than before. */
     static void refused(ServiceHall hall, Class<? extends RuntimeException> due, String what, Call call) {
         String before = shown(hall);
@@ -78,6 +82,17 @@ final class Checks {
     static void component(ServiceHall hall, int c, int provides, boolean delayed, int face, int kind) {
         hall.describe(c, provides, 0, delayed, false);
         hall.reference(c, face, kind, -1);
+    }
+
+    /** Service 0 from outside; delayed component 0 needs it for its service 1; delayed component 1 that for its 2. */
+    static ServiceHall delayedChain() {
+        ServiceHall hall = new ServiceHall();
+        component(hall, 0, 1, true, 0, 1);
+        component(hall, 1, 2, true, 1, 1);
+        hall.register(0, 0);
+        hall.enable(0, true);
+        hall.enable(1, true);
+        return hall;
     }
 
     static String row(ServiceHall hall, int c, int r) {

@@ -5,7 +5,7 @@ public final class EnableTest {
         bindsTheBestThatCanBeGot();
         givesBackWhatDidNotWork();
         brokenIsTriedAgain();
-        stopsInOrder();
+        stoppingReachesOthers();
         readyIsStopped();
         runsOutOfNumbers();
         componentsInCircles();
@@ -99,8 +99,7 @@ public final class EnableTest {
         Checks.due("now nothing is there", hall.look(0, 0), ServiceHall.WAITING);
     }
 
-    /** Of two delayed ones that hold each other's user up, the one given back last goes last. */
-    private static void stopsInOrder() {
+    private static void stoppingReachesOthers() {
         ServiceHall hall = new ServiceHall();
         hall.describe(1, 1, 0, true, false);
         hall.describe(2, 2, 0, true, false);

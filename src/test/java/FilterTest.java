@@ -9,7 +9,9 @@ public final class FilterTest {
         "(a<=*)", "(a>=*)", "(a=**)", "(a=*1)", "(a=1*)", "(a=-*)", "(a=-)", "(a=--1)", "(a=+1)", "(a=1-)",
         "(a=12345)", "(a=00001)", "(a=1.)", "(a=.5)", "(a=-.5)", "(a=1.2345)", "(a=1.2.3)", "(a=1.-2)", "(a=1e3)",
         "(a=1,5)", "(&(a=1)(&))", "(a=1)x", "x(a=1)", "(&(&(&(&(&(&(&(&(&(&(&(&(&(&(&(&", "((((((((((((((((",
-        "))))", "(!(!(!(!(!(!(!(!(!(!(!(!(!(!(!(!"};
+        "))))", "(!(!(!(!(!(!(!(!(!(!(!(!(!(!(!(!", "(&(b)", "(&(a=1)(b)", "(|(a=)", "(!(a)",
+        "(&(a=1)(a=1)(a=1)(a=1)(a=100.5)(", "(&(a=1)(a=1)(a=1)(a=1)(a=1)(a=10", "(&(a=1)(a=1)(a=1)(a=1)(a=1)(a<=-",
+        "(&(a=1)(a=1)(a=1)(a=1)(a=10.25)&", "(&(a=1)(a=1)(a=1)(a=1)(a=1)(a=1)"};
 
     public static void main(String[] args) {
         countsComparisons();
@@ -37,10 +39,10 @@ public final class FilterTest {
         ServiceHall hall = new ServiceHall();
         Checks.refused(hall, IllegalArgumentException.class, "no text", () -> hall.filter(0));
         for (String text : NO_FILTERS) {
-            Checks.refused(hall, IllegalArgumentException.class, text, () -> Checks.setFilter(hall, 0, text));
+            Checks.noFilter(hall, IllegalArgumentException.class, text, 0, text);
         }
         for (int f : new int[] {-1, 6, Integer.MIN_VALUE, Integer.MAX_VALUE}) {
-            Checks.refused(hall, IllegalArgumentException.class, "filter " + f, () -> Checks.setFilter(hall, f, "(a=1)"));
+            Checks.noFilter(hall, IllegalArgumentException.class, "filter " + f, f, "(a=1)");
         }
     }
 
@@ -62,7 +64,7 @@ public final class FilterTest {
         ServiceHall hall = new ServiceHall();
         hall.property(hall.register(0, 0), 0, 1, false);
         Checks.setFilter(hall, 0, "(a=1)");
-        Checks.refused(hall, IllegalArgumentException.class, "no filter", () -> Checks.setFilter(hall, 0, "(&(b=1)(c=1)"));
+        Checks.noFilter(hall, IllegalArgumentException.class, "no filter", 0, "(&(b=1)(c=1)");
         Checks.due("the old one still holds", hall.best(0, 0), 0);
         Checks.setFilter(hall, 0, "(a=2)");
         Checks.refused(hall, NoSuchElementException.class, "the new one does not", () -> hall.best(0, 0));
@@ -79,14 +81,17 @@ public final class FilterTest {
         hall.reference(7, 0, 0, -1);
         hall.reference(7, 0, 0, -1);
         hall.reference(7, 0, 1, 2);
+        hall.reference(6, 0, 1, 2);
+        hall.describe(6, -1, 0, false, false);
+        hall.enable(6, true);
         Checks.due("an OFF one has it", Checks.setFilter(hall, 2, "(a>=1)"), 1);
         Checks.due("WAITING", hall.enable(7, true), ServiceHall.WAITING);
-        Checks.refused(hall, IllegalStateException.class, "a WAITING one has it", () -> Checks.setFilter(hall, 2, "(a=2)"));
-        Checks.refused(hall, IllegalArgumentException.class, "the text comes first", () -> Checks.setFilter(hall, 2, "(a2)"));
+        Checks.noFilter(hall, IllegalStateException.class, "a WAITING one has it", 2, "(a=2)");
+        Checks.noFilter(hall, IllegalArgumentException.class, "the text comes first", 2, "(a2)");
         Checks.due("another one", Checks.setFilter(hall, 3, "(a=3)"), 1);
         hall.property(hall.register(0, 0), 0, 5, false);
         Checks.due("what was set while it was OFF counts", hall.look(7, 0), ServiceHall.ACTIVE);
-        Checks.refused(hall, IllegalStateException.class, "an ACTIVE one has it", () -> Checks.setFilter(hall, 2, "(a=2)"));
+        Checks.noFilter(hall, IllegalStateException.class, "an ACTIVE one has it", 2, "(a=2)");
         hall.enable(7, false);
         Checks.due("OFF again", Checks.setFilter(hall, 2, "(a=2)"), 1);
         hall.enable(7, true);

@@ -29,12 +29,7 @@ public final class GetTest {
     }
 
     private static void fromADelayedOne() {
-        ServiceHall hall = new ServiceHall();
-        Checks.component(hall, 0, 1, true, 0, 1);
-        Checks.component(hall, 1, 2, true, 1, 1);
-        hall.register(0, 0);
-        hall.enable(0, true);
-        hall.enable(1, true);
+        ServiceHall hall = Checks.delayedChain();
         Checks.due("READY, nothing bound", hall.look(1, 0) * 10 + hall.service(0, 4), 20);
         Checks.due("asked for", hall.get(2), 1);
         Checks.due("it is ACTIVE", hall.look(1, 0), ServiceHall.ACTIVE);

@@ -137,13 +137,14 @@ public final class RandomRunsTest {
         int s = numberAround(plain.services.size());
         int what = numberAround(9);
         int few = numberAround(3);
+        int place = numberAround(random.nextInt(4));
         int i = numberAround(6);
         int f = numberAround(6);
         switch (random.nextInt(7)) {
             case 0: return both("best " + i + " " + f, () -> hall.best(i, f), () -> plain.best(i, f));
             case 1: return both("value " + s + " " + i, () -> hall.value(s, i), () -> plain.value(s, i));
-            case 2: return both("bound " + c + " " + few + " 0", () -> hall.bound(c, few, 0), () -> plain.bound(c, few, 0));
-            case 3: return both("bound " + c + " 0 " + few, () -> hall.bound(c, 0, few), () -> plain.bound(c, 0, few));
+            case 2: case 3: return both("bound " + c + " " + few + " " + place,
+                    () -> hall.bound(c, few, place), () -> plain.bound(c, few, place));
             case 4: return both("look " + c + " " + what, () -> hall.look(c, what), () -> plain.look(c, what));
             case 5: return both("service " + s + " " + f, () -> hall.service(s, f), () -> plain.service(s, f));
             default: return both("count " + i, () -> hall.count(i), () -> plain.count(i));
@@ -162,7 +163,8 @@ public final class RandomRunsTest {
             answers = both("text " + filter + " from " + from, () -> hall.text(w), () -> plain.text(w));
         }
         int f = random.nextInt(6);
-        return answers[1].equals(answers[2]) ? both("filter " + f, () -> hall.filter(f), () -> plain.filter(f)) : answers;
+        return !answers[1].equals(answers[2]) ? answers
+                : both("filter " + f, () -> hall.filter(f), () -> plain.filter(f));
     }
 
     /** Mostly one that is below the bound, now and then one that is not. */

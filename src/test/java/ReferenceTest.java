@@ -32,6 +32,7 @@ public final class ReferenceTest {
         neverBindsItsOwn();
         goesOnWithTheNextReference();
         greedyTakesTheBetterOnly();
+        bindsAllFifty();
         Checks.end();
     }
 
@@ -133,5 +134,22 @@ public final class ReferenceTest {
         hall.enable(1, true);
         Checks.due("better, but can't be got", hall.bound(0, 0, 0), 2);
         Checks.due("it was tried", hall.look(1, 3), 1);
+    }
+
+    private static void bindsAllFifty() {
+        ServiceHall hall = new ServiceHall();
+        Checks.component(hall, 0, -1, false, 0, 1 + 2 + 4);
+        hall.enable(0, true);
+        for (int s = 0; s < 50; s++) {
+            hall.register(0, 0);
+        }
+        Checks.due("all are bound", hall.look(0, 6), 50);
+        Checks.due("the last", hall.bound(0, 0, 49), 49);
+        Checks.due("the first goes", hall.withdraw(0), 0);
+        Checks.due("the others move up", hall.bound(0, 0, 0), 1);
+        Checks.due("to the last", hall.bound(0, 0, 48), 49);
+        Checks.due("in the middle", hall.withdraw(25), 0);
+        Checks.due("those before it stay", hall.bound(0, 0, 23), 24);
+        Checks.due("those behind it move", hall.bound(0, 0, 24), 26);
     }
 }

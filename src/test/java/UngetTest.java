@@ -30,12 +30,7 @@ public final class UngetTest {
     }
 
     private static void makesADelayedOneInactive() {
-        ServiceHall hall = new ServiceHall();
-        Checks.component(hall, 0, 1, true, 0, 1);
-        Checks.component(hall, 1, 2, true, 1, 1);
-        hall.register(0, 0);
-        hall.enable(0, true);
-        hall.enable(1, true);
+        ServiceHall hall = Checks.delayedChain();
         hall.get(2);
         hall.get(2);
         Checks.due("one use is left", hall.unget(2), 1);
