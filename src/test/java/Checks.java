@@ -1,5 +1,12 @@
-/** What the tests share: comparing answers, writing filters, and looking at all that an object shows. */
+import java.util.NoSuchElementException;
+
+/** What the tests share: comparing answers and refusals, writing filters, and set-ups. */
 final class Checks {
+    static final Class<IllegalArgumentException> ARGUMENT = IllegalArgumentException.class;
+    static final Class<IllegalStateException> STATE = IllegalStateException.class;
+    static final Class<NoSuchElementException> ELEMENT = NoSuchElementException.class;
+    static final Class<IndexOutOfBoundsException> INDEX = IndexOutOfBoundsException.class;
+
     private static int checks;
     private static int wrong;
 
@@ -12,8 +19,8 @@ final class Checks {
 
     static void due(String what, double got, double want) {
         checks++;
-        if (got != want) {
-            tell(what + " answered " + got + ", due is " + want);
+        if (Double.compare(got, want) != 0 && got != want) {
+            tell(what + ": " + got + ", due is " + want);
         }
     }
 
@@ -24,15 +31,29 @@ final class Checks {
         }
     }
 
-    static void noFilter(ServiceHall hall, Class<? extends RuntimeException> due, String what, int f, String text) {
-        refused(hall, due, what, () -> setFilter(hall, f, text));
+    /** The call throws this very exception, and all that the object shows is as before. */
+    static void refused(Hall hall, Class<? extends RuntimeException> due, String what, Call call) {
+        String before = hall.shown();
+        thrown(due, what, call);
+        sameAs(before, what + " leaves changed", hall.shown());
     }
 
-    /** The call throws this very exception, and nothing that the object shows is other than before. */
-    static void refused(ServiceHall hall, Class<? extends RuntimeException> due, String what, Call call) {
-        String before = shown(hall);
-        thrown(due, what, call);
-        dueText(what + " leaves changed", shown(hall), before);
+    /** Of long texts only what stands round the first difference is told. */
+    static void sameAs(String before, String what, String now) {
+        int same = 0;
+        while (same < Math.min(before.length(), now.length()) && before.charAt(same) == now.charAt(same)) {
+            same++;
+        }
+        dueText(what, around(now, same), around(before, same));
+    }
+
+    private static String around(String text, int place) {
+        return text.substring(Math.max(0, place - 60), Math.min(text.length(), place + 20));
+    }
+
+    /** The text is empty before and behind, so that all is as before here too. */
+    static void noFilter(Hall hall, Class<? extends RuntimeException> due, int f, String text) {
+        refused(hall, due, "filter " + f + " " + text, () -> setFilter(hall, f, text));
     }
 
     static void thrown(Class<? extends RuntimeException> due, String what, Call call) {
@@ -53,9 +74,14 @@ final class Checks {
 
     static void end() {
         System.out.println(checks + " checks, " + wrong + " wrong");
-        if (wrong != 0) {
+        if (wrong != 0 || checks == 0) {
             System.exit(1);
         }
+    }
+
+    /** The first that are not allowed on either side, and the farthest. */
+    static int[] outside(int first, int last) {
+        return new int[] {first - 1, last + 1, Integer.MIN_VALUE, Integer.MAX_VALUE};
     }
 
     /** The first eight letters as the octets of a number, the first one lowest. */
@@ -67,26 +93,32 @@ final class Checks {
         return octets;
     }
 
-    static void write(ServiceHall hall, String text) {
+    static void write(Hall hall, String text) {
         for (int from = 0; from < text.length(); from += 8) {
             hall.text(octets(text.substring(from)));
         }
     }
 
-    static int setFilter(ServiceHall hall, int f, String text) {
+    static int setFilter(Hall hall, int f, String text) {
         write(hall, text);
         return hall.filter(f);
     }
 
+    static void register(Hall hall, int howMany, int face) {
+        for (int n = 0; n < howMany; n++) {
+            hall.register(face, 0);
+        }
+    }
+
     /** A component with one reference, described and not yet enabled. */
-    static void component(ServiceHall hall, int c, int provides, boolean delayed, int face, int kind) {
+    static void component(Hall hall, int c, int provides, boolean delayed, int face, int kind) {
         hall.describe(c, provides, 0, delayed, false);
         hall.reference(c, face, kind, -1);
     }
 
     /** Service 0 from outside; delayed component 0 needs it for its service 1; delayed component 1 that for its 2. */
-    static ServiceHall delayedChain() {
-        ServiceHall hall = new ServiceHall();
+    static Hall delayedChain() {
+        Hall hall = new Hall();
         component(hall, 0, 1, true, 0, 1);
         component(hall, 1, 2, true, 1, 1);
         hall.register(0, 0);
@@ -95,59 +127,9 @@ final class Checks {
         return hall;
     }
 
-    static String row(ServiceHall hall, int c, int r) {
-        StringBuilder row = new StringBuilder();
-        for (int k = 0; k < hall.look(c, 6 + r); k++) {
-            row.append(k == 0 ? "" : " ").append(hall.bound(c, r, k));
-        }
-        return row.toString();
-    }
-
-    /** All that an object shows by calls that change nothing. */
-    static String shown(ServiceHall hall) {
-        StringBuilder all = new StringBuilder("counts");
-        for (int what = 0; what <= 5; what++) {
-            all.append(' ').append(hall.count(what));
-        }
-        for (int c = 0; c < 8; c++) {
-            all.append("; component");
-            for (int what = 0; what <= 8; what++) {
-                all.append(' ').append(hall.look(c, what));
-            }
-            for (int r = 0; r < 3; r++) {
-                all.append(" [").append(row(hall, c, r)).append(']');
-            }
-        }
-        for (int s = 0; s < hall.count(0); s++) {
-            all.append("; service");
-            for (int what = 0; what <= 4; what++) {
-                all.append(' ').append(hall.service(s, what));
-            }
-            for (int k = 0; k < 6; k++) {
-                all.append(' ').append(valueOrNone(hall, s, k));
-            }
-        }
-        for (int i = 0; i < 6; i++) {
-            for (int f = -1; f < 6; f++) {
-                all.append(' ').append(bestOrNone(hall, i, f));
-            }
-        }
-        return all.toString();
-    }
-
-    private static String valueOrNone(ServiceHall hall, int s, int k) {
-        try {
-            return String.valueOf(hall.value(s, k));
-        } catch (java.util.NoSuchElementException none) {
-            return "none";
-        }
-    }
-
-    private static String bestOrNone(ServiceHall hall, int i, int f) {
-        try {
-            return String.valueOf(hall.best(i, f));
-        } catch (java.util.NoSuchElementException none) {
-            return "none";
-        }
+    /** A delayed component that fails: its service is there, and can never be got. */
+    static void neverGot(Hall hall, int c, int face, int rank) {
+        hall.describe(c, face, rank, true, true);
+        hall.enable(c, true);
     }
 }

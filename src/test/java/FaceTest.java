@@ -8,12 +8,20 @@ import java.util.TreeSet;
 
 /** The class shows the members of the document's face, and no others. */
 public final class FaceTest {
+    private static final String A = "IllegalArgumentException";
+    private static final String E = "NoSuchElementException";
+    private static final String S = "IllegalStateException";
+    private static final String I = "IndexOutOfBoundsException";
     private static final Set<String> METHODS = new TreeSet<>(Arrays.asList(
-            "int text(long)", "int filter(int)", "int register(int, int)", "int withdraw(int)",
-            "boolean property(int, int, double, boolean)", "int describe(int, int, int, boolean, boolean)",
-            "int reference(int, int, int, int)", "int enable(int, boolean)", "int get(int)", "int unget(int)",
-            "int best(int, int)", "double value(int, int)", "int bound(int, int, int)", "int look(int, int)",
-            "int service(int, int)", "int count(int)"));
+            "int text(long) " + A + " " + I, "int filter(int) " + A + " " + S,
+            "int register(int, int) " + A + " " + I, "int withdraw(int) " + E,
+            "boolean property(int, int, double, boolean) " + E + " " + A,
+            "int describe(int, int, int, boolean, boolean) " + A + " " + S,
+            "int reference(int, int, int, int) " + A + " " + E + " " + S + " " + I,
+            "int enable(int, boolean) " + A, "int get(int) " + E + " " + S, "int unget(int) " + E,
+            "int best(int, int) " + A + " " + E, "double value(int, int) " + E + " " + A,
+            "int bound(int, int, int) " + A + " " + I, "int look(int, int) " + A,
+            "int service(int, int) " + E + " " + A, "int count(int) " + A));
     private static final Set<String> CONSTANTS =
             new TreeSet<>(Arrays.asList("OFF", "WAITING", "READY", "ACTIVE", "BROKEN"));
 
@@ -40,8 +48,12 @@ public final class FaceTest {
         for (Method method : hall.getDeclaredMethods()) {
             if (!Modifier.isPrivate(method.getModifiers()) && !method.isSynthetic()) {
                 String parameters = Arrays.toString(method.getParameterTypes());
-                shown.add(method.getReturnType() + " " + method.getName()
+                StringBuilder heading = new StringBuilder(method.getReturnType() + " " + method.getName()
                         + "(" + parameters.substring(1, parameters.length() - 1) + ")");
+                for (Class<?> thrown : method.getExceptionTypes()) {
+                    heading.append(' ').append(thrown.getSimpleName());
+                }
+                shown.add(heading.toString());
             }
         }
         return shown;

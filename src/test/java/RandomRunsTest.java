@@ -1,12 +1,13 @@
 import java.util.Random;
 
 /**
- * Long runs of calls drawn from fixed seeds: ServiceHall and PlainHall answer the same, and whatever they answer,
- * a service's uses are its gets from outside and its places in rows.
+ * Runs of calls drawn from fixed seeds, as long as an object may be used: ServiceHall and PlainHall answer the same,
+ * and whatever they answer, a service's uses are its gets from outside and its places in rows.
  */
 public final class RandomRunsTest {
     private static final int RUNS = 3000;
-    private static final int CALLS = 512;
+    /** Of the 512 calls of an object the last ones look at all of it. */
+    private static final int CALLS = Hall.CALLS - 132;
     private static final String[] FILTERS = {
         "(a=1)", "(a>=1)", "(a<=-0.5)", "(b=*)", "(!(a=1))", "(&(a>=0)(b<=2.25))", "(|(a=1)(b=1)(c=*))",
         "(&(!(a=2))(|(b=0)(a=1)))", "(!(&(a=*)))", "(a=1.5)", "(&)", "(!(a=1)(b=1))", "(a<1)", "(a>=*)", "(a=1))",
@@ -20,6 +21,7 @@ public final class RandomRunsTest {
     /** Some runs have services going slowly, so that components' own services do not use up all numbers at once. */
     private final int faces;
     private final int delayedShare;
+    private int calls;
 
     private RandomRunsTest(long seed) {
         random = new Random(seed);
@@ -37,36 +39,54 @@ public final class RandomRunsTest {
     }
 
     private boolean agrees(int run) {
-        for (int call = 0; call < CALLS; call++) {
-            String[] answers = next();
-            if (!answers[1].equals(answers[2])) {
-                Checks.tell("run " + run + " call " + call + ": " + answers[0] + " answered " + answers[1]
-                        + ", due is " + answers[2]);
+        while (calls < CALLS) {
+            if (!same(run, next())) {
                 return false;
             }
-            if (call % 16 == 0 && !usesAddUp()) {
-                Checks.tell("run " + run + " call " + call + ": uses do not add up behind " + answers[0]);
+            if (!usesAddUp()) {
+                Checks.tell("run " + run + " call " + calls + ": uses do not add up");
                 return false;
             }
         }
-        return true;
+        return agreesInTheEnd(run);
     }
 
+    private boolean same(int run, String[] answers) {
+        if (!answers[1].equals(answers[2])) {
+            Checks.tell("run " + run + " call " + calls + ": " + answers[0] + " answered " + answers[1]
+                    + ", due is " + answers[2]);
+        }
+        return answers[1].equals(answers[2]);
+    }
+
+    private boolean agreesInTheEnd(int run) {
+        boolean same = true;
+        for (int n = 0; n < 5; n++) {
+            int what = n;
+            same = same && same(run, both("count " + what, () -> hall.count(what), () -> plain.count(what)));
+        }
+        for (int n = 0; n < 72; n++) {
+            int c = n / 9;
+            int what = n % 9;
+            same = same && same(run, both("look " + c + " " + what,
+                    () -> hall.look(c, what), () -> plain.look(c, what)));
+        }
+        for (int n = 0; n < plain.services.size(); n++) {
+            int s = n;
+            same = same && same(run, both("service " + s, () -> hall.service(s, 4), () -> plain.service(s, 4)));
+        }
+        return same;
+    }
+
+    /** Of the plain one, whose answers are the same: looking at the other one would take calls. */
     private boolean usesAddUp() {
         int[] uses = outside.clone();
-        for (int c = 0; c < 8; c++) {
-            for (int r = 0; r < 3; r++) {
-                for (int k = 0; k < hall.look(c, 6 + r); k++) {
-                    uses[hall.bound(c, r, k)]++;
-                }
+        for (PlainHall.Component c : plain.components) {
+            for (PlainHall.Reference r : c.references) {
+                r.bound.forEach(s -> uses[s.number]++);
             }
         }
-        for (int s = 0; s < hall.count(0); s++) {
-            if (hall.service(s, 4) != uses[s]) {
-                return false;
-            }
-        }
-        return true;
+        return plain.services.stream().allMatch(s -> s.uses == uses[s.number]);
     }
 
     /** What was called, what ServiceHall answered, what PlainHall answered. */
@@ -172,7 +192,11 @@ public final class RandomRunsTest {
         return random.nextInt(12) == 0 || bound == 0 ? random.nextInt(bound + 3) - 1 : random.nextInt(bound);
     }
 
-    private static String[] both(String call, Checks.Call ours, Checks.Call theirs) {
+    private String[] both(String call, Checks.Call ours, Checks.Call theirs) {
+        calls++;
+        if (calls > Hall.CALLS) {
+            throw new AssertionError("a run uses one object for more than 512 calls");
+        }
         return new String[] {call, answerOf(ours), answerOf(theirs)};
     }
 

@@ -1,5 +1,3 @@
-import java.util.NoSuchElementException;
-
 /** Promise 8, and what each kind of REFERENCE does when services come and go. */
 public final class ReferenceTest {
     /**
@@ -28,16 +26,19 @@ public final class ReferenceTest {
         for (int kind = 0; kind < 16; kind++) {
             comesAndGoes(kind);
         }
-        refusals();
-        neverBindsItsOwn();
-        goesOnWithTheNextReference();
-        greedyTakesTheBetterOnly();
-        bindsAllFifty();
+        answersHowManyItHas();
+        hasRoomForThree();
+        refusesOtherComponents();
+        takesEachInterface();
+        refusesOtherKinds();
+        takesEachFilterOrNone();
+        refusesAFilterThatIsNone();
+        refusesOneThatIsNotOff();
         Checks.end();
     }
 
     private static void comesAndGoes(int kind) {
-        ServiceHall hall = new ServiceHall();
+        Hall hall = new Hall();
         String[] due = KINDS[kind];
         Checks.component(hall, 0, -1, false, 0, kind);
         hall.enable(0, true);
@@ -56,100 +57,114 @@ public final class ReferenceTest {
         Checks.due("kind " + kind + " was made INACTIVE", hall.look(0, 4), hall.look(0, 2) - (needsOne ? 0 : 1));
     }
 
-    private static void step(ServiceHall hall, int kind, int step, String[] due) {
-        String got = hall.look(0, 2) + ":" + Checks.row(hall, 0, 0);
+    private static void step(Hall hall, int kind, int step, String[] due) {
+        String got = hall.look(0, 2) + ":" + hall.row(0, 0);
         Checks.dueText("kind " + kind + " behind step " + step, got, due[step]);
     }
 
-    private static void refusals() {
-        ServiceHall hall = new ServiceHall();
-        Class<IllegalArgumentException> refusal = IllegalArgumentException.class;
-        Checks.setFilter(hall, 5, "(a=1)");
-        for (int wrong : new int[] {-2, 16, Integer.MIN_VALUE, Integer.MAX_VALUE}) {
-            Checks.refused(hall, refusal, "component " + wrong, () -> hall.reference(wrong, 0, 0, -1));
-            Checks.refused(hall, refusal, "interface " + wrong, () -> hall.reference(0, wrong, 0, -1));
-            Checks.refused(hall, refusal, "kind " + wrong, () -> hall.reference(0, 0, wrong, -1));
-            Checks.refused(hall, refusal, "filter " + wrong, () -> hall.reference(0, 0, 0, wrong));
+    private static void answersHowManyItHas() {
+        Hall hall = new Hall();
+        for (int c = 0; c < 8; c++) {
+            for (int n = 1; n <= 3; n++) {
+                Checks.due("component " + c, hall.reference(c, 0, 0, -1), n);
+                Checks.due("look says the same", hall.look(c, 5), n);
+            }
         }
-        Checks.refused(hall, refusal, "component -1", () -> hall.reference(-1, 0, 0, -1));
-        Checks.refused(hall, refusal, "component 8", () -> hall.reference(8, 0, 0, -1));
-        Checks.refused(hall, refusal, "interface -1", () -> hall.reference(0, -1, 0, -1));
-        Checks.refused(hall, refusal, "interface 6", () -> hall.reference(0, 6, 0, -1));
-        Checks.refused(hall, refusal, "kind -1", () -> hall.reference(0, 0, -1, -1));
-        Checks.refused(hall, refusal, "filter 6", () -> hall.reference(0, 0, 0, 6));
-        Checks.refused(hall, NoSuchElementException.class, "filter 4", () -> hall.reference(0, 0, 0, 4));
-        Checks.due("the first", hall.reference(0, 0, 15, 5), 1);
-        Checks.due("the second", hall.reference(0, 5, 0, -1), 2);
-        hall.enable(0, true);
-        Checks.refused(hall, IllegalStateException.class, "WAITING", () -> hall.reference(0, 0, 0, -1));
-        hall.enable(0, false);
-        Checks.due("the third", hall.reference(0, 0, 0, -1), 3);
-        Checks.refused(hall, IndexOutOfBoundsException.class, "a fourth", () -> hall.reference(0, 0, 0, -1));
-        Checks.due("of another component", hall.reference(7, 0, 0, -1), 1);
     }
 
-    private static void neverBindsItsOwn() {
-        ServiceHall hall = new ServiceHall();
-        Checks.component(hall, 0, 0, false, 0, 2 + 4);
-        hall.enable(0, true);
-        Checks.dueText("its own service is no target", Checks.row(hall, 0, 0), "");
-        Checks.component(hall, 1, 0, true, 0, 1);
-        Checks.due("another's is, and asked for at once", hall.enable(1, true), ServiceHall.ACTIVE);
-        Checks.dueText("so the first one has it bound", Checks.row(hall, 0, 0), "1");
-        Checks.dueText("and the other one the first one's", Checks.row(hall, 1, 0), "0");
-        Checks.component(hall, 2, 3, true, 3, 1);
-        Checks.due("one that needs its own kind waits", hall.enable(2, true), ServiceHall.WAITING);
-    }
-
-    private static void goesOnWithTheNextReference() {
-        ServiceHall hall = new ServiceHall();
-        hall.describe(0, -1, 0, false, false);
-        hall.reference(0, 0, 2 + 4, -1);
+    /** "IndexOutOfBoundsException: it has 3" */
+    private static void hasRoomForThree() {
+        Hall hall = new Hall();
+        hall.reference(0, 0, 1, -1);
         hall.reference(0, 1, 1, -1);
-        hall.reference(0, 0, 4 + 8, -1);
-        hall.register(1, 0);
-        hall.enable(0, true);
-        hall.register(0, 0);
-        hall.register(0, 1);
-        Checks.dueText("all of them", Checks.row(hall, 0, 0), "1 2");
-        Checks.dueText("the better one", Checks.row(hall, 0, 2), "2");
-        Checks.due("uses for both references", hall.service(2, 4), 2);
-        hall.withdraw(2);
-        Checks.dueText("what is left", Checks.row(hall, 0, 0), "1");
-        Checks.dueText("what is left is the best", Checks.row(hall, 0, 2), "1");
-        Checks.due("it was made once", hall.look(0, 2), 1);
+        Checks.due("the third", hall.reference(0, 2, 1, -1), 3);
+        Checks.refused(hall, Checks.INDEX, "a fourth", () -> hall.reference(0, 3, 1, -1));
+        hall.describe(0, -1, 0, false, false);
+        Checks.due("described anew", hall.reference(0, 3, 1, -1), 1);
     }
 
-    private static void greedyTakesTheBetterOnly() {
-        ServiceHall hall = new ServiceHall();
-        Checks.component(hall, 0, -1, false, 0, 4 + 8);
-        hall.register(0, 5);
-        hall.enable(0, true);
-        hall.register(0, 5);
-        Checks.due("the same rank and a higher number is not better", hall.bound(0, 0, 0), 0);
-        hall.register(0, 6);
-        Checks.due("a greater rank is", hall.bound(0, 0, 0), 2);
-        Checks.due("the other one was given back", hall.service(0, 4), 0);
-        hall.describe(1, 0, 9, true, true);
-        hall.enable(1, true);
-        Checks.due("better, but can't be got", hall.bound(0, 0, 0), 2);
-        Checks.due("it was tried", hall.look(1, 3), 1);
-    }
-
-    private static void bindsAllFifty() {
-        ServiceHall hall = new ServiceHall();
-        Checks.component(hall, 0, -1, false, 0, 1 + 2 + 4);
-        hall.enable(0, true);
-        for (int s = 0; s < 50; s++) {
-            hall.register(0, 0);
+    private static void refusesOtherComponents() {
+        Hall hall = new Hall();
+        for (int c : Checks.outside(0, 7)) {
+            Checks.refused(hall, Checks.ARGUMENT, "component " + c, () -> hall.reference(c, 0, 0, -1));
         }
-        Checks.due("all are bound", hall.look(0, 6), 50);
-        Checks.due("the last", hall.bound(0, 0, 49), 49);
-        Checks.due("the first goes", hall.withdraw(0), 0);
-        Checks.due("the others move up", hall.bound(0, 0, 0), 1);
-        Checks.due("to the last", hall.bound(0, 0, 48), 49);
-        Checks.due("in the middle", hall.withdraw(25), 0);
-        Checks.due("those before it stay", hall.bound(0, 0, 23), 24);
-        Checks.due("those behind it move", hall.bound(0, 0, 24), 26);
+    }
+
+    private static void takesEachInterface() {
+        Hall hall = new Hall();
+        for (int i = 0; i < 6; i++) {
+            hall.reference(i, i, 1, -1);
+            hall.enable(i, true);
+        }
+        for (int i = 0; i < 6; i++) {
+            hall.register(i, 0);
+            Checks.dueText("the one that waits for interface " + i, hall.row(i, 0), String.valueOf(i));
+            Checks.due("and no other", hall.count(3), i + 1);
+        }
+        for (int i : Checks.outside(0, 5)) {
+            Checks.refused(hall, Checks.ARGUMENT, "interface " + i, () -> hall.reference(7, i, 0, -1));
+        }
+    }
+
+    /** "kind not 0..15": what the sixteen do stands above. */
+    private static void refusesOtherKinds() {
+        Hall hall = new Hall();
+        for (int kind : Checks.outside(0, 15)) {
+            Checks.refused(hall, Checks.ARGUMENT, "kind " + kind, () -> hall.reference(0, 0, kind, -1));
+        }
+        Checks.due("the first kind", hall.reference(0, 0, 0, -1), 1);
+        Checks.due("the last kind", hall.reference(0, 0, 15, -1), 2);
+    }
+
+    private static void takesEachFilterOrNone() {
+        Hall hall = new Hall();
+        for (int f = 0; f < 6; f++) {
+            Checks.setFilter(hall, f, "(a=" + f + ")");
+            hall.reference(f, 0, 1, f);
+            hall.enable(f, true);
+        }
+        hall.reference(7, 0, 1, -1);
+        hall.enable(7, true);
+        hall.register(0, 0);
+        Checks.due("without a filter", hall.look(7, 0), ServiceHall.ACTIVE);
+        for (int f = 0; f < 6; f++) {
+            hall.property(0, 0, f, false);
+            Checks.due("by filter " + f, hall.look(f, 0), ServiceHall.ACTIVE);
+            Checks.due("and no other", hall.count(3), 2);
+        }
+        for (int f : Checks.outside(-1, 5)) {
+            Checks.refused(hall, Checks.ARGUMENT, "filter " + f, () -> hall.reference(6, 0, 0, f));
+        }
+    }
+
+    private static void refusesAFilterThatIsNone() {
+        for (int written = 0; written < 6; written++) {
+            Hall hall = new Hall();
+            Checks.setFilter(hall, written, "(a=1)");
+            for (int n = 0; n < 6; n++) {
+                int f = n;
+                if (f != written) {
+                    Checks.refused(hall, Checks.ELEMENT, "filter " + f, () -> hall.reference(0, 0, 0, f));
+                }
+            }
+            Checks.due("the one that is written", hall.reference(0, 0, 0, written), 1);
+        }
+    }
+
+    private static void refusesOneThatIsNotOff() {
+        Hall hall = new Hall();
+        Checks.component(hall, 1, 1, false, 0, 1);
+        hall.describe(2, 2, 0, true, false);
+        hall.describe(3, 3, 0, false, false);
+        hall.describe(4, 4, 0, false, true);
+        for (int n = ServiceHall.WAITING; n <= ServiceHall.BROKEN; n++) {
+            int c = n;
+            Checks.due("component " + c + " stands so", hall.enable(c, true), c);
+            Checks.refused(hall, Checks.STATE, "component " + c, () -> hall.reference(c, 0, 0, -1));
+        }
+        for (int c = ServiceHall.WAITING; c <= ServiceHall.BROKEN; c++) {
+            hall.enable(c, false);
+            Checks.due("OFF again", hall.reference(c, 0, 0, -1), c == ServiceHall.WAITING ? 2 : 1);
+        }
     }
 }
