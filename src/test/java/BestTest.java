@@ -121,5 +121,6 @@ public final class BestTest {
             Checks.due("the last", hall.best(0, -1), s);
             hall.withdraw(s);
         }
+        Checks.refused(hall, Checks.ELEMENT, "none of fifty", () -> hall.best(0, -1));
     }
 }

@@ -4,6 +4,7 @@ public final class EnableTest {
         takesEachOfEight();
         answersHowItStands();
         answersBehindTheNotes();
+        answersBehindAHundredNotes();
         onChangesOnlyOneThatIsOff();
         offChangesOnlyOneThatIsNotOff();
         whatIsOffIsLeftAlone();
@@ -54,6 +55,18 @@ public final class EnableTest {
         Checks.due("the other one", hall.look(0, 0), ServiceHall.BROKEN);
         Checks.due("each service has come and gone", hall.count(2), 100);
         Checks.due("none is there", hall.count(1), 0);
+    }
+
+    /** All fifty numbers come and go in one call, which has them all noted. */
+    private static void answersBehindAHundredNotes() {
+        Hall hall = new Hall();
+        Checks.component(hall, 0, 0, false, 1, 1);
+        Checks.component(hall, 1, 1, false, 0, 8);
+        hall.enable(0, true);
+        Checks.due("no note before", hall.count(2), 0);
+        Checks.due("it can't be made once more", hall.enable(1, true), ServiceHall.BROKEN);
+        Checks.due("the other one lacks it", hall.look(0, 0), ServiceHall.WAITING);
+        Checks.dueText("a hundred notes, and the last service bound twice in vain", hall.counts(), "50 0 100 0 51 0");
     }
 
     private static void onChangesOnlyOneThatIsOff() {

@@ -13,6 +13,7 @@ public final class FilterTruthTest {
         farRealsAndNoNumber();
         allAnyAndNot();
         eachPropertyIsItsOwn();
+        isAskedAnewEachTime();
         Checks.end();
     }
 
@@ -137,6 +138,26 @@ public final class FilterTruthTest {
         holds("(|(&(a=2)(a=1))(a=1))", 1, true);
         holds("(!(!(!(!(!(!(!(!(!(a=1))))))))))", 1, false);
         holds("(!(!(!(!(!(!(!(!(a=1)))))))))", 1, true);
+    }
+
+    /** Nothing is left of what was true, or false, of another service before. */
+    private static void isAskedAnewEachTime() {
+        String[] filters = {"(&(a>=1)(a<=2))", "(|(a=1)(a=2))", "(!(|(a<=0)(a>=3)))", "(&(|(a=2)(a=1)))"};
+        for (String filter : filters) {
+            Hall hall = new Hall();
+            Checks.setFilter(hall, 0, filter);
+            hall.property(hall.register(0, 0), 0, 0, false);
+            hall.property(hall.register(0, 9), 0, 3, false);
+            for (int n = 0; n < 3; n++) {
+                Checks.refused(hall, Checks.ELEMENT, filter + " for 0 and 3", () -> hall.best(0, 0));
+                hall.property(0, 0, 1, false);
+                Checks.due(filter + " for 1 and 3", hall.best(0, 0), 0);
+                hall.property(1, 0, 2, false);
+                Checks.due(filter + " for 1 and 2", hall.best(0, 0), 1);
+                hall.property(0, 0, 0, false);
+                hall.property(1, 0, 3, false);
+            }
+        }
     }
 
     private static void eachPropertyIsItsOwn() {

@@ -79,7 +79,8 @@ public final class FilterWordsTest {
         for (String k : LETTERS) {
             isNone("(" + k + "=1)", "(" + k + "=*)");
         }
-        isNone("(=1)", "(<=1)", "(a)", "(&(b))", "(&(a=1)(b))");
+        isNone("(=1)", "(<=1)", "(a)", "(&(b))", "(&(a=1)(b))", "(&(b)", "(&(a=1)(b)", "(&(b)(a=1))");
+        isNone("(|(a=)", "(!(a)", "(|(a=))", "(!(a))");
     }
 
     private static void signsAreThree() {

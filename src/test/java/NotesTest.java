@@ -20,6 +20,7 @@ public final class NotesTest {
         cameAndDynamicButCannotBeGot();
         cameAndGreedyButNotBetter();
         cameAndGreedyButCannotBeGot();
+        goneAndThereAgain();
         onceStoppedIsEnough();
         goesOnWithTheNextReference();
         Checks.end();
@@ -291,6 +292,29 @@ public final class NotesTest {
         Checks.dueText("dynamic: has what it had", hall.looks(1), "3 -1 1 0 0 1 1 0 0");
         Checks.due("both have tried", hall.look(7, 3), 2);
         Checks.dueText("both have the same", hall.row(0, 0) + hall.row(1, 0), "00");
+    }
+
+    /** "is no more bound": what was let go is bound anew when it is a target again, from each place of the row. */
+    private static void goneAndThereAgain() {
+        for (int kind : new int[] {4, 6, 12, 14}) {
+            boolean many = (kind & 2) != 0;
+            Hall hall = new Hall();
+            Checks.setFilter(hall, 0, "(!(a=1))");
+            hall.reference(0, 0, kind, 0);
+            Checks.register(hall, 3, 0);
+            hall.enable(0, true);
+            Checks.dueText("kind " + kind, hall.row(0, 0), many ? "0 1 2" : "0");
+            for (int s : new int[] {2, 0, 1, 1}) {
+                hall.property(s, 0, 1, false);
+                hall.property(s, 0, 0, false);
+            }
+            Checks.dueText("kind " + kind, hall.row(0, 0), many ? "2 0 1" : "0");
+            Checks.due("kind " + kind + " is the same all the time", hall.look(0, 2), 1);
+            for (int s = 0; s < 3; s++) {
+                Checks.due("kind " + kind + ", uses of " + s, hall.service(s, 4),
+                        hall.row(0, 0).contains(String.valueOf(s)) ? 1 : 0);
+            }
+        }
     }
 
     /** "as long as it is ACTIVE and not STOPPED here" */
