@@ -1,8 +1,9 @@
-/** Terms: what a note of a SERVICE does to each COMPONENT. What each kind of REFERENCE does is in ReferenceTest too. */
+/**
+ * Terms: what a note of a SERVICE does to each COMPONENT. What each kind of REFERENCE does is in ReferenceTest too, and
+ * the order of notes in NoteOrderTest.
+ */
 public final class NotesTest {
     public static void main(String[] args) {
-        theOldestFirst();
-        componentZeroFirst();
         offIsLeftAlone();
         brokenIsTriedAgainByItsInterfaces();
         brokenWithoutReferencesStaysSo();
@@ -16,42 +17,17 @@ public final class NotesTest {
         goneAndDynamicAtMostOne();
         goneAndDynamicMany();
         goneAndNoneThatCanBeGot();
+        goneAndAnotherCanBeGotMeanwhile();
         cameAndNotGreedy();
         cameAndDynamicButCannotBeGot();
+        cameAndIsTheOneThatIsBound();
         cameAndGreedyButNotBetter();
+        cameAndGreedyAndBetterByItsNumber();
         cameAndGreedyButCannotBeGot();
         goneAndThereAgain();
         onceStoppedIsEnough();
         goesOnWithTheNextReference();
         Checks.end();
-    }
-
-    /** The notes of services 1 and 2 come in this order, and so do the numbers of those who waited for them. */
-    private static void theOldestFirst() {
-        Hall hall = new Hall();
-        Checks.component(hall, 0, 4, false, 2, 1);
-        Checks.component(hall, 1, 1, false, 0, 1);
-        Checks.component(hall, 2, 2, false, 0, 1);
-        Checks.component(hall, 3, 5, false, 1, 1);
-        for (int c = 0; c < 4; c++) {
-            hall.enable(c, true);
-        }
-        Checks.due("all wait for it", hall.register(0, 0), 0);
-        Checks.due("of the first note", hall.look(3, 1), 3);
-        Checks.due("of the second", hall.look(0, 1), 4);
-        Checks.due("notes", hall.count(2), 5);
-    }
-
-    private static void componentZeroFirst() {
-        Hall hall = new Hall();
-        for (int c = 7; c >= 0; c--) {
-            Checks.component(hall, c, 1, false, 0, 1);
-            hall.enable(c, true);
-        }
-        hall.register(0, 0);
-        for (int c = 0; c < 8; c++) {
-            Checks.due("the service of " + c, hall.look(c, 1), c + 1);
-        }
     }
 
     private static void offIsLeftAlone() {
@@ -236,6 +212,35 @@ public final class NotesTest {
         }
     }
 
+    /** With at most one the best that can be got is bound; MANY are not filled up, so that needs a new start. */
+    private static void goneAndAnotherCanBeGotMeanwhile() {
+        Hall hall = new Hall();
+        int[] kinds = {4, 1 + 4, 2 + 4, 1 + 2 + 4};
+        for (int c = 0; c < 4; c++) {
+            Checks.component(hall, c, -1, false, 1, kinds[c]);
+        }
+        hall.register(1, 9);
+        gotOnlyLater(hall);
+        for (int c = 0; c < 4; c++) {
+            hall.enable(c, true);
+            Checks.dueText("only one can be got, kind " + kinds[c], hall.row(c, 0), "0");
+        }
+        hall.register(2, 0);
+        hall.withdraw(0);
+        Checks.dueText("at most one", hall.looks(0) + ", " + hall.row(0, 0), "3 -1 1 0 0 1 1 0 0, 2");
+        Checks.dueText("at most one, needed", hall.looks(1) + ", " + hall.row(1, 0), "3 -1 1 0 0 1 1 0 0, 2");
+        Checks.dueText("MANY", hall.looks(2), "3 -1 1 0 0 1 0 0 0");
+        Checks.dueText("MANY, needed", hall.looks(3) + ", " + hall.row(3, 0), "3 -1 2 0 1 1 1 0 0, 2");
+    }
+
+    /** Service 2 of interface 1, rank 5: it is there, and can be got when a service of interface 2 from outside is. */
+    private static void gotOnlyLater(Hall hall) {
+        Checks.neverGot(hall, 7, 2, 0);
+        hall.describe(6, 1, 5, true, false);
+        hall.reference(6, 2, 1, -1);
+        hall.enable(6, true);
+    }
+
     private static void cameAndNotGreedy() {
         Hall hall = new Hall();
         for (int kind = 0; kind < 8; kind++) {
@@ -265,6 +270,25 @@ public final class NotesTest {
         }
     }
 
+    /** The one that the note is of, even if a better one could be got by now. */
+    private static void cameAndIsTheOneThatIsBound() {
+        for (int kind : new int[] {4, 4 + 8}) {
+            for (int had = 0; had < 2; had++) {
+                Hall hall = new Hall();
+                Checks.component(hall, 0, -1, false, 1, kind);
+                hall.register(had, 0);
+                gotOnlyLater(hall);
+                hall.enable(0, true);
+                Checks.dueText("what it has first", hall.row(0, 0), had == 1 ? "0" : "");
+                hall.register(2, 0);
+                hall.register(1, 1);
+                boolean takes = had == 0 || kind >= 8;
+                Checks.dueText("kind " + kind, hall.row(0, 0), takes ? "4" : "0");
+                Checks.due("the better one is not asked", hall.look(6, 2), 0);
+            }
+        }
+    }
+
     private static void cameAndGreedyButNotBetter() {
         for (int kind : new int[] {8, 9, 12, 13}) {
             Hall hall = new Hall();
@@ -277,6 +301,23 @@ public final class NotesTest {
             Checks.dueText("kind " + kind, hall.row(0, 0), "0");
             Checks.due("it is not made anew", hall.look(0, 2), 1);
             Checks.due("nor is what is no better tried", hall.look(7, 3), 0);
+        }
+    }
+
+    private static void cameAndGreedyAndBetterByItsNumber() {
+        for (int kind : new int[] {8, 9, 12, 13}) {
+            boolean dynamic = kind >= 12;
+            Hall hall = new Hall();
+            Checks.setFilter(hall, 0, "(a=1)");
+            hall.reference(0, 0, kind, 0);
+            Checks.register(hall, 2, 0);
+            hall.property(1, 0, 1, false);
+            hall.enable(0, true);
+            Checks.dueText("the only target, kind " + kind, hall.row(0, 0), "1");
+            hall.property(0, 0, 1, false);
+            Checks.dueText("the same rank and a lower number", hall.row(0, 0), "0");
+            Checks.due("made anew if not dynamic", hall.look(0, 2), dynamic ? 1 : 2);
+            Checks.due("the other one is given back", hall.service(1, 4), 0);
         }
     }
 
