@@ -6,6 +6,7 @@ public final class NotesTest {
     public static void main(String[] args) {
         offIsLeftAlone();
         brokenIsTriedAgainByItsInterfaces();
+        brokenIsTriedAgainByItsOwnService();
         brokenWithoutReferencesStaysSo();
         brokenMayWait();
         readyIsStopped();
@@ -59,6 +60,22 @@ public final class NotesTest {
         hall.withdraw(4);
         Checks.due("of another", hall.look(0, 3), tried + 2);
         Checks.due("it is BROKEN all the time", hall.look(0, 0), ServiceHall.BROKEN);
+    }
+
+    /** It refers to the interface that it provides: the going of its own service is a note of that interface too. */
+    private static void brokenIsTriedAgainByItsOwnService() {
+        for (int own = 0; own < 2; own++) {
+            Hall hall = new Hall();
+            hall.describe(0, 1, 0, false, false);
+            hall.reference(0, 0, 1, -1);
+            hall.reference(0, own == 1 ? 1 : 2, 0, -1);
+            hall.register(0, 0);
+            Checks.neverGot(hall, 7, 0, 0);
+            hall.enable(0, true);
+            hall.withdraw(0);
+            Checks.dueText("tried when stopped, and by its own service's note", hall.looks(0),
+                    own == 1 ? "4 -1 1 2 1 2 0 0 0" : "4 -1 1 1 1 2 0 0 0");
+        }
     }
 
     private static void brokenWithoutReferencesStaysSo() {
